@@ -240,11 +240,8 @@ public final class LoadsTest {
     private static void endOfLongNumbers() {
         PileCaps o = new PileCaps();
         o.layer(50, 50, 1000);
-        for (int i = 0; i < 6; i++) {
-            o.pile(-20, -20, 100, 20);
-        }
-        for (int i = 0; i < 5; i++) {
-            o.pile(20, -20, 100, 20);
+        for (int i = 0; i < 11; i++) {
+            o.pile(i < 5 ? 20 : -20, -20, 100, 20);
         }
         o.pile(0, 20, 100, 20);
         for (int i = 0; i < 6; i++) {

@@ -61,7 +61,7 @@ public final class RandomRunsTest {
 
     private int place() {
         int v = from(-20, 20);
-        if (great) return v;
+        if (great) return random.nextInt(3) == 0 ? v : random.nextBoolean() ? 20 : -20;
         return v < -20 || v > 20 ? v : v % (reach + 1);
     }
 
